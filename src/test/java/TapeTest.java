@@ -24,7 +24,7 @@ public final class TapeTest {
         for (char v = 'a'; v <= 'z'; v++) {
             Trial.due("new: look(" + v + ")", t.cls(v), -1);
             Trial.due("new: length(" + v + ")", t.length(v), -1);
-            Trial.due("new: value(" + v + ")", t.value(v), Trial.NO_SUCH);
+            Trial.due("new: value(" + v + ")", t.number(v), Trial.NO_SUCH);
         }
         Trial.due("new: same(0, -1, 0, -1)", t.x.same(0, -1, 0, -1), false);
         Trial.due("new: compile()", t.x.compile(), -1);
@@ -88,6 +88,6 @@ public final class TapeTest {
         t.x.end(4);
         Trial.due("a=7;", t.x.compile(), 1);
         t.x.run();
-        Trial.due("its value", t.value('a'), 7);
+        Trial.due("its value", t.number('a'), 7);
     }
 }

@@ -129,7 +129,7 @@ final class Trial {
         }
     }
 
-    long value(char var, int... path) {
+    long number(char var, int... path) {
         return value(var - 'a', at(path, 0), at(path, 1), at(path, 2));
     }
 
