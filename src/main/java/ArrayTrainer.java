@@ -566,9 +566,9 @@ public final class ArrayTrainer {
             atomNumber = 0;
         }
 
-        void addIndex(int var, int number) {
+        void addIndex(int v, int number) {
             if (indexes < INDEXES_MAX) {
-                indexVar[indexes] = var;
+                indexVar[indexes] = v;
                 indexNumber[indexes] = number;
                 indexes++;
             }
@@ -714,18 +714,18 @@ public final class ArrayTrainer {
 
         /** Reads as far as it takes to know the ACT. */
         private boolean readHead() {
-            int var = lexer.variable();
-            if (var == NONE) {
+            int v = lexer.variable();
+            if (v == NONE) {
                 now.act = lexer.wordIn(ACTS) + 1;
                 return passIf(leads(now.act));
             }
             lexer.next();
             if (lexer.isSign('[')) {
                 now.act = Step.WRITE;
-                now.first = var;
+                now.first = v;
                 return true;
             }
-            now.target = var;
+            now.target = v;
             if (!passIf(lexer.isSign('='))) {
                 return false;
             }
@@ -741,16 +741,16 @@ public final class ArrayTrainer {
                 return;
             }
             now.act = Step.PLAIN;
-            int var = lexer.variable();
-            if (var == NONE) {
+            int v = lexer.variable();
+            if (v == NONE) {
                 return;
             }
             lexer.next();
             if (lexer.isSign('[')) {
                 now.act = Step.READ;
-                now.first = var;
+                now.first = v;
             } else {
-                now.atomVar = var;
+                now.atomVar = v;
             }
         }
 
@@ -871,9 +871,9 @@ public final class ArrayTrainer {
 
         private boolean acceptIndex() {
             if (lexer.kind != Lexer.NUMBER) {
-                int var = negative ? NONE : lexer.variable();
-                now.addIndex(var, 0);
-                return acceptIf(var != NONE);
+                int v = negative ? NONE : lexer.variable();
+                now.addIndex(v, 0);
+                return acceptIf(v != NONE);
             }
             long magnitude = lexer.magnitude();
             if (lexer.numberKind() != Classes.INT || !Classes.has(Classes.INT, magnitude, negative)) {
@@ -916,7 +916,7 @@ public final class ArrayTrainer {
     private static final class Speller {
         // No STEP that the grammar lets through has as many TOKENS or, spelled, as many bytes.
         private static final int TOKENS_MAX = 64;
-        private static final int OUT_MAX = 512;
+        private static final int OUT_MAX = 256;
 
         private final Lexer lexer;
         private final byte[] out = new byte[OUT_MAX];
@@ -999,7 +999,7 @@ public final class ArrayTrainer {
 
         /** The ARRAY's number in the store; of what is no ARRAY 0, which has no CELLS there. */
         int array() {
-            return isArray() ? (int) datum : 0;
+            return cls >= Classes.DIM ? (int) datum : 0;
         }
     }
 
@@ -1018,12 +1018,11 @@ public final class ArrayTrainer {
         private final long[] cells = new long[CELLS_MAX];
         private int things = 1;
         private int looked;
-        private boolean lookedTooOften;
+        boolean lookedTooOften;
         int arraysMade;
         int cellsMade;
 
         void empty() {
-            classes[0] = NONE;
             things = 1;
             arraysMade = 0;
             cellsMade = 0;
@@ -1152,22 +1151,33 @@ public final class ArrayTrainer {
             return DONE;
         }
 
-        void startLooking() {
+        /** No hash where lookedTooOften is set then. */
+        int hashOf(Value v) {
+            startLooking();
+            return hashDown(v.cls, v.datum, 0);
+        }
+
+        /** No answer where lookedTooOften is set then. */
+        boolean areEqual(Value v, Value w) {
+            startLooking();
+            return equalDown(v.cls, v.datum, w.cls, w.datum, 0);
+        }
+
+        private void startLooking() {
             looked = 0;
             lookedTooOften = false;
         }
 
         private boolean mayLook() {
-            lookedTooOften = lookedTooOften || looked == LOOKS_MAX;
+            if (looked == LOOKS_MAX) {
+                lookedTooOften = true;
+                return false;
+            }
             looked++;
-            return !lookedTooOften;
+            return true;
         }
 
-        boolean lookedTooOften() {
-            return lookedTooOften;
-        }
-
-        int hashOf(int cls, long datum, int depth) {
+        private int hashDown(int cls, long datum, int depth) {
             if (cls == NONE) {
                 return 0;
             }
@@ -1181,12 +1191,12 @@ public final class ArrayTrainer {
             int length = lengthOf(array);
             int h = cls;
             for (int i = 0; i < length && mayLook(); i++) {
-                h = 31 * h + hashOf(cellClass(array, i), cellDatum(array, i), depth + 1);
+                h = 31 * h + hashDown(cellClass(array, i), cellDatum(array, i), depth + 1);
             }
             return h;
         }
 
-        boolean areEqual(int cls, long datum, int otherClass, long otherDatum, int depth) {
+        private boolean equalDown(int cls, long datum, int otherClass, long otherDatum, int depth) {
             if (cls != otherClass) {
                 return false;
             }
@@ -1200,7 +1210,7 @@ public final class ArrayTrainer {
                 return false;
             }
             for (int i = 0; i < length; i++) {
-                if (!mayLook() || !areEqual(cellClass(one, i), cellDatum(one, i),
+                if (!mayLook() || !equalDown(cellClass(one, i), cellDatum(one, i),
                         cellClass(other, i), cellDatum(other, i), depth + 1)) {
                     return false;
                 }
@@ -1415,10 +1425,10 @@ public final class ArrayTrainer {
 
         private int readIndexes(Step s) {
             for (int n = 0; n < s.indexes && n < indexes.length; n++) {
-                int var = s.indexVar[n];
-                indexes[n] = s.indexNumber[n];
-                if (var != NONE) {
-                    Value v = variable(var);
+                if (s.indexVar[n] == NONE) {
+                    indexes[n] = s.indexNumber[n];
+                } else {
+                    Value v = variable(s.indexVar[n]);
                     if (v.isNone()) {
                         return MISSING;
                     }
@@ -1491,8 +1501,7 @@ public final class ArrayTrainer {
                     return LARGE;
                 }
             }
-            int made = makeLevel(s.cls, 0, s.indexes);
-            return tell(s, s.cls, made);
+            return tell(s, s.cls, makeLevel(s.cls, 0, s.indexes));
         }
 
         private int makeLevel(int cls, int level, int levels) {
@@ -1548,17 +1557,13 @@ public final class ArrayTrainer {
 
         private int tellHash(Step s) {
             Value v = variable(s.first);
-            store.startLooking();
-            int hash = store.hashOf(v.cls, v.datum, 0);
-            return store.lookedTooOften() ? LARGE : tell(s, Classes.INT, hash);
+            int hash = store.hashOf(v);
+            return store.lookedTooOften ? LARGE : tell(s, Classes.INT, hash);
         }
 
         private int tellEqual(Step s) {
-            Value v = variable(s.first);
-            Value w = variable(s.second);
-            store.startLooking();
-            boolean equal = store.areEqual(v.cls, v.datum, w.cls, w.datum, 0);
-            return store.lookedTooOften() ? LARGE : tellTruth(s, equal);
+            boolean equal = store.areEqual(variable(s.first), variable(s.second));
+            return store.lookedTooOften ? LARGE : tellTruth(s, equal);
         }
 
         private int copyCells(Step s) {
