@@ -94,6 +94,11 @@ public final class CompileTest {
         faultAt("a=-!5e;", 1);
         faultAt("!a5=5;", 1);
         faultAt("a=!b5;", 1);
+        for (int digit = 0; digit < 10; digit++) {
+            faultAt("a=!b" + digit + ";", 1);
+            faultAt("a=!true" + digit + ";", 1);
+            faultAt("a=!b" + digit + "c;", 1);
+        }
         faultAt("a=!trues1;", 1);
         faultAt("a=b; !abcdefghi", 1);
         faultAt("a=b; !abcdefgh", 2);

@@ -402,6 +402,14 @@ public final class RunTest {
         is("a=new cat[1];b=new cat[1];a[0]=cat;b[0]=cat;x=equal a b;", 'x', 0);
         is("a=new cat[1];b=new cat[1];c=cat;a[0]=c;b[0]=c;x=equal a b;", 'x', 1);
         is("a=new cat[0];b=new lion[0];x=equal a b;", 'x', 0);
+        for (int cls = 20; cls < 80; cls++) {
+            if (cls % 20 < 17) {
+                String name = new Trial().nameOf(cls);
+                String made = name.substring(0, name.indexOf('[')) + "[2]" + "[]".repeat(cls / 20 - 1);
+                is("a=new " + made + ";b=new " + made + ";x=equal a b;", 'x', 1);
+                is("a=new " + made + ";x=hash a;", 'x', cls * 31 * 31);
+            }
+        }
         Trial.due("a truth", last("x=equal a b;", 0).cls('x'), 0);
     }
 

@@ -89,5 +89,22 @@ public final class TapeTest {
         Trial.due("a=7;", t.x.compile(), 1);
         t.x.run();
         Trial.due("its value", t.number('a'), 7);
+        // What is behind the cut is no part of a TOKEN ahead of it.
+        t.tape("a=bcd;");
+        t.x.end(3);
+        Trial.due("a=b", t.x.compile(), -4);
+        Trial.due("its fault", t.x.fault(), 2);
+        t.tape("a=12345678901234567890;");
+        t.x.end(4);
+        Trial.due("a=12", t.x.compile(), -5);
+        Trial.due("its fault", t.x.fault(), 2);
+        t.tape("cats[]");
+        t.x.end(3);
+        Trial.due("cat", t.x.named(), 9);
+        // A TOKEN that ends where the tape can't be longer.
+        t.tape(" ".repeat(3097) + "cat");
+        Trial.due("cat at the end of a full tape", t.x.named(), 9);
+        t.tape(" ".repeat(3100));
+        Trial.due("a full tape without a TOKEN", t.x.named(), -1);
     }
 }
