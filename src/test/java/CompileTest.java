@@ -14,24 +14,15 @@ public final class CompileTest {
     }
 
     private static void fine(String text, int steps) {
-        Trial t = new Trial();
-        Trial.due("compile() of " + text, t.compile(text), steps);
-        Trial.due("fault() of " + text, t.x.fault(), 0);
-        Trial.due("tape behind " + text, t.x.count(1), 0);
-        Trial.due("steps of " + text, t.x.count(0), steps);
+        Trial.fine(text, steps);
     }
 
     private static void fault(String text, int kind, int place) {
-        Trial t = new Trial();
-        Trial.due("compile() of " + text, t.compile(text), -1 - place);
-        Trial.due("fault() of " + text, t.x.fault(), kind);
-        Trial.due("tape behind " + text, t.x.count(1), text.length());
-        Trial.due("steps of " + text, t.x.count(0), 0);
+        Trial.fault(text, kind, place);
     }
 
-    /** A fault where the text has a ! , which is taken out. */
     private static void faultAt(String marked, int kind) {
-        fault(marked.replace("!", ""), kind, marked.indexOf('!'));
+        Trial.faultAt(marked, kind);
     }
 
     private static final String[] ACTS = {

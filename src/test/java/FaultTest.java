@@ -6,8 +6,8 @@ import java.util.regex.Matcher;
 import java.util.regex.Pattern;
 
 /**
- * Promises 4 to 6 once more: texts by chance (always the same ones), mostly with a slip in them, whose first FAULT is
- * found here by patterns over the TOKENS, and not by a parser.
+ * Promises 4 to 6 once more: texts, whose first FAULT is found here by patterns over the TOKENS, and not by a parser. At
+ * first every TOKEN at every place of every kind of STEP, then texts by chance (always the same ones), mostly with a slip.
  */
 public final class FaultTest {
     private static final String[] WORDS = ("guess take none missing index size store cast unlike large read write get "
@@ -19,19 +19,52 @@ public final class FaultTest {
     private static final Random CHANCE = new Random(5);
 
     public static void main(String[] args) {
+        eachTokenAtEachPlace();
+        byChance();
+        Trial.finish("FaultTest");
+    }
+
+    private static void hold(String text, int[] due) {
+        Trial t = new Trial();
+        Trial.due("compile() of '" + text + "'", t.compile(text), due[0] == 0 ? due[1] : -1 - due[1]);
+        Trial.due("fault() of '" + text + "'", t.x.fault(), due[0]);
+    }
+
+    /** Behind each beginning of each kind of STEP every TOKEN that there is, and what is none. */
+    private static void eachTokenAtEachPlace() {
+        String[] steps = {"a = b ;", "a = - 5 ;", "a = b [ 1 ] [ i ] [ - 3 ] ;", "a [ 1 ] [ i ] [ - 3 ] = - 5 ;",
+            "a = read int b [ 1 ] ;", "write long a [ 1 ] = b ;", "a = get b [ 1 ] ;", "put a [ 1 ] = b ;",
+            "a = new int [ 1 ] [ i ] [ - 3 ] ;", "a = new flier [ 1 ] [ ] [ ] ;", "a = clone b ;",
+            "a = cast b cat [ ] [ ] [ ] ;", "a = is b flier [ ] [ ] [ ] ;", "a = same b c ;", "a = size b ;", "a = class b ;",
+            "a = hash b ;", "a = equal b c ;", "copy a [ 1 ] to b [ i ] for - 3 ;", "fill a with true ;",
+            "swap a [ 1 ] [ i ] ;", "turn a ;", "mark cat ;", "guess none take cast a = 5 ;", "guess large a = 5 ;"};
+        String signs = "[ ] = ; - a z 5 5b 5l 128b 65536c 2147483648 9223372036854775808d zz zebra A $ . 5x a1 ";
+        List<String> tokens = new ArrayList<>(List.of((signs + String.join(" ", WORDS)).split(" ")));
+        tokens.add("");
+        for (String step : steps) {
+            String[] parts = step.split(" ");
+            for (int n = 0; n <= parts.length; n++) {
+                String ahead = String.join(" ", List.of(parts).subList(0, n));
+                for (String token : tokens) {
+                    String text = ahead + " " + token;
+                    hold(text, fault(text));
+                    hold("a=5; " + text + " ;", fault("a=5; " + text + " ;"));
+                }
+            }
+        }
+    }
+
+    private static void byChance() {
         int[] kinds = new int[5];
         for (int n = 0; n < 40000; n++) {
             String text = text();
             int[] due = fault(text);
             kinds[due[0]]++;
-            Trial t = new Trial();
-            Trial.due("compile() of '" + text + "'", t.compile(text), due[0] == 0 ? due[1] : -1 - due[1]);
-            Trial.due("fault() of '" + text + "'", t.x.fault(), due[0]);
+            hold(text, due);
         }
         for (int kind = 0; kind < 5; kind++) {
             Trial.due("many of FAULT " + kind, kinds[kind] > 300, true);
         }
-        Trial.finish("FaultTest");
     }
 
     private static String code(String word) {

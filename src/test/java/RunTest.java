@@ -19,18 +19,12 @@ public final class RunTest {
         Trial.finish("RunTest");
     }
 
-    /** Runs the text with its last STEP's REFUSAL due: 0 where it is done. */
     private static Trial last(String text, int refusal) {
-        Trial t = new Trial();
-        int got = t.run(text);
-        int steps = t.x.count(0);
-        Trial.due("run() of " + text, got, refusal == 0 ? 0 : steps);
-        Trial.due("last of " + text, t.outcome(steps - 1), refusal);
-        return t;
+        return Trial.last(text, refusal);
     }
 
     private static void is(String text, char var, long want) {
-        Trial.due(var + " behind " + text, last(text, 0).number(var), want);
+        Trial.is(text, var, want);
     }
 
     private static void runs() {

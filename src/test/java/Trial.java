@@ -8,16 +8,28 @@ final class Trial {
 
     private static int wrong = 0;
     private static int asked = 0;
+    private static int sentences = 0;
+    private static String sentence = "";
 
     final ArrayTrainer x = new ArrayTrainer();
+
+    /** The sentence of the document that the answers from here on are held against. */
+    static void sentence(String words) {
+        sentences++;
+        sentence = "'" + words + "': ";
+    }
 
     static void due(String what, long got, long want) {
         asked++;
         if (got != want) {
-            wrong++;
-            if (wrong <= 50) {
-                System.out.println(what + " answered " + show(got) + ", due is " + show(want));
-            }
+            complain(what + " answered " + show(got) + ", due is " + show(want));
+        }
+    }
+
+    private static void complain(String words) {
+        wrong++;
+        if (wrong <= 50) {
+            System.out.println(sentence + words);
         }
     }
 
@@ -28,8 +40,7 @@ final class Trial {
     static void dueText(String what, String got, String want) {
         asked++;
         if (!got.equals(want)) {
-            wrong++;
-            System.out.println(what + " answered '" + got + "', due is '" + want + "'");
+            complain(what + " answered '" + got + "', due is '" + want + "'");
         }
     }
 
@@ -40,7 +51,8 @@ final class Trial {
 
     /** Ends a test's main. */
     static void finish(String test) {
-        System.out.println(test + ": " + asked + " answers, " + wrong + " wrong");
+        String told = sentences == 0 ? "" : " to " + sentences + " sentences";
+        System.out.println(test + ": " + asked + " answers" + told + ", " + wrong + " wrong");
         if (wrong != 0) {
             System.exit(1);
         }
@@ -79,6 +91,42 @@ final class Trial {
         Trial t = new Trial();
         t.run(text);
         return t;
+    }
+
+    /** Runs the text with its last STEP's REFUSAL due, 0 where it is done; none ahead of it may end the run. */
+    static Trial last(String text, int refusal) {
+        Trial t = new Trial();
+        int got = t.run(text);
+        int steps = t.x.count(0);
+        due("run() of " + text, got, refusal == 0 ? 0 : steps);
+        due("last of " + text, t.outcome(steps - 1), refusal);
+        return t;
+    }
+
+    /** Runs the text, of which all is done, with the NUMBER due that is in the VAR then. */
+    static void is(String text, char var, long want) {
+        due(var + " behind " + text, last(text, 0).number(var), want);
+    }
+
+    static void fine(String text, int steps) {
+        Trial t = new Trial();
+        due("compile() of " + text, t.compile(text), steps);
+        due("fault() of " + text, t.x.fault(), 0);
+        due("tape behind " + text, t.x.count(1), 0);
+        due("steps of " + text, t.x.count(0), steps);
+    }
+
+    static void fault(String text, int kind, int place) {
+        Trial t = new Trial();
+        due("compile() of " + text, t.compile(text), -1 - place);
+        due("fault() of " + text, t.x.fault(), kind);
+        due("tape behind " + text, t.x.count(1), text.length());
+        due("steps of " + text, t.x.count(0), 0);
+    }
+
+    /** A FAULT where the text has a ! , which is taken out. */
+    static void faultAt(String marked, int kind) {
+        fault(marked.replace("!", ""), kind, marked.indexOf('!'));
     }
 
     long step(int k, int what) {
@@ -185,5 +233,62 @@ final class Trial {
             s.append(o == ArrayTrainer.NONE ? "-" : Long.toString(o));
         }
         return s.toString();
+    }
+
+    /** All that can be asked of a trainer but for the tape: fault(), and what program() and things() tell. */
+    String state() {
+        return x.fault() + program() + things();
+    }
+
+    /** The PROGRAM with its outcomes, the counts, and OUT. */
+    private String program() {
+        StringBuilder s = new StringBuilder(" counts");
+        for (int what = 0; what <= 9; what++) {
+            s.append(what == 1 ? "" : " " + x.count(what));
+        }
+        for (int k = 0; k < x.count(0); k++) {
+            s.append(" step ").append(outcome(k));
+            for (int what = 0; what < 4; what++) {
+                s.append(' ').append(step(k, what));
+            }
+        }
+        s.append(" out ");
+        for (int i = 0; i < x.count(2); i++) {
+            s.append((char) octet(i));
+        }
+        return s.toString();
+    }
+
+    /** The VARS with all that is in them, which of it is the very same, and the MARKS. */
+    String things() {
+        StringBuilder s = new StringBuilder();
+        for (int v = 0; v < 26; v++) {
+            s.append("\n").append((char) ('a' + v));
+            tell(s, v, -1, -1, -1);
+            for (int w = 0; w < 26; w++) {
+                s.append(x.same(v, -1, w, -1) ? "=" : "");
+                for (int n = 0; n < 16 && v < 6 && w < 6; n++) {
+                    s.append(x.same(v, n / 4, w, n % 4) ? "+" : "-");
+                }
+            }
+        }
+        for (int k = 0; k <= 50; k++) {
+            s.append(" mark ").append(x.mark(k, 0)).append(' ').append(marked(k));
+        }
+        return s.toString();
+    }
+
+    private void tell(StringBuilder s, int v, int i, int j, int k) {
+        int length = x.look(v, i, j, k, 1);
+        s.append(' ').append(x.look(v, i, j, k, 0)).append(' ').append(length).append(' ').append(value(v, i, j, k));
+        for (int n = 0; n < length && k == -1; n++) {
+            if (i == -1) {
+                tell(s, v, n, -1, -1);
+            } else if (j == -1) {
+                tell(s, v, i, n, -1);
+            } else {
+                tell(s, v, i, j, n);
+            }
+        }
     }
 }
